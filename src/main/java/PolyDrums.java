@@ -2,7 +2,8 @@
  * A drum machine for tracks of different lengths.
  *
  * The Java machine itself must never throw here: what it could throw for (an index, a divisor, a
- * null) is tested in the small functions read, write, quotient, rest, trackOrNull, sectionOrNull.
+ * null) is tested right where it is used, mostly in the small functions read, write, quotient,
+ * rest, trackOrNull and sectionOrNull.
  */
 public final class PolyDrums {
     private static final int MOST_TRACKS = 8;

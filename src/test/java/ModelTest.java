@@ -1,4 +1,6 @@
+import java.math.BigInteger;
 import java.util.ArrayList;
+import java.util.Arrays;
 import java.util.List;
 import java.util.Random;
 
@@ -459,7 +461,7 @@ public final class ModelTest {
         private void write(int from, int to) {
             boolean isAnySolo = tracks.stream().anyMatch(t -> t.is[1]);
             for (int k = 0; k < tracks.size(); k++) {
-                java.util.Arrays.fill(struck[k], from, to, 0);
+                Arrays.fill(struck[k], from, to, 0);
                 Track t = tracks.get(k);
                 if (t.is[0] || isAnySolo && !t.is[1]) {
                     continue;
@@ -587,14 +589,14 @@ public final class ModelTest {
         }
 
         long period() {
-            java.math.BigInteger all = java.math.BigInteger.ONE;
+            BigInteger all = BigInteger.ONE;
             for (int k = 0; k < tracks.size(); k++) {
                 Track t = tracks.get(k);
                 long own = (long) t.steps.size() * t.stepTicks * rounds(k);
-                java.math.BigInteger x = java.math.BigInteger.valueOf(own);
+                BigInteger x = BigInteger.valueOf(own);
                 all = all.multiply(x).divide(all.gcd(x));
             }
-            return all.compareTo(java.math.BigInteger.valueOf(1000000000)) > 0 ? -1 : all.longValue();
+            return all.compareTo(BigInteger.valueOf(1000000000)) > 0 ? -1 : all.longValue();
         }
 
         double density(int k) {

@@ -318,6 +318,8 @@ public final class PromiseTest {
         one.set(0, 0, 5, 1);
         due("p10 one step", 1, one.rotate(0, 31));
         due("p10 one step still", 5, one.step(0, 0, 0));
+        one.set(0, 0, 1, 1);
+        due("p10 the least force", 1, one.rotate(0, 1));
         dueThrow("p10 track", x, INDEX, () -> x.rotate(1, 0));
         dueThrow("p10 places", x, ARGUMENT, () -> x.rotate(0, 32));
         for (int w : WILD) {
@@ -493,6 +495,11 @@ public final class PromiseTest {
         due("p18 an accent that is solo", 107, x.loudness(0, 0));
         x.turn(0, 0, true);
         due("p18 muted", 0, x.loudness(0, 0));
+        PolyDrums first = withTracks(1, 10, 1, 10);
+        first.set(0, 0, 8, 1);
+        first.set(1, 0, 1, 1);
+        first.turn(0, 2, true);
+        due("p18 track 0 is the accent", 3, first.loudness(1, 0));
         dueThrow("p18 track", x, INDEX, () -> x.loudness(3, LAST_TICK + 1));
         dueThrow("p18 tick", x, ARGUMENT, () -> x.loudness(0, LAST_TICK + 1));
         for (int w : WILD) {
