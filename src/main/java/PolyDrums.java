@@ -58,10 +58,10 @@ public final class PolyDrums {
 
     public int addTrack(int n, int d) throws IllegalArgumentException, IllegalStateException {
         checkArgument(isWithin(n, 1, MOST_STEPS) && isWithin(d, 1, MOST_STEP_TICKS));
-        if (trackCount < 0 || trackCount >= tracks.length) {
+        int number = trackCount;
+        if (number < 0 || number >= tracks.length) {
             throw new IllegalStateException("there are 8 tracks");
         }
-        int number = trackCount;
         tracks[number] = new Track(n, d);
         trackCount = number + 1;
         return number;
@@ -161,12 +161,13 @@ public final class PolyDrums {
     public int addSection(int length, int set, boolean isNew)
             throws IllegalArgumentException, IllegalStateException {
         checkArgument(isWithin(length, 1, MOST_SECTION_TICKS) && isWithin(set, 0, MOST_SET));
-        if (sectionCount < 0 || sectionCount >= sections.length) {
+        int number = sectionCount;
+        if (number < 0 || number >= sections.length) {
             throw new IllegalStateException("there are 12 sections");
         }
         int begin = songTicks();
-        sections[sectionCount] = new Section(begin, length, set, isNew);
-        sectionCount++;
+        sections[number] = new Section(begin, length, set, isNew);
+        sectionCount = number + 1;
         return begin;
     }
 
