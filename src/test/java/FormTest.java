@@ -149,6 +149,7 @@ public final class FormTest {
         rule7IndicesAndDivisors();
         rule8Recursion();
         rule9Loops();
+        rule10Texts();
         rule11Sizes();
         rule11Depth();
         rule12Objects();
@@ -378,6 +379,7 @@ public final class FormTest {
         }
     }
 
+    /** Rule 13 holds by the same: nothing that is allowed here knows a clock or a file. */
     private static void rule4Library() {
         rule = "rule 4";
         due("imports", List.of(), all(ImportTree.class));
@@ -518,6 +520,17 @@ public final class FormTest {
                     .matches(counter + "(\\+\\+|--);?"));
             due("the counter is left alone in " + in, false, (" " + loop.getStatement())
                     .matches("(?s).*\\W" + counter + "( =|\\+\\+|--| \\+=| -=)[^=].*"));
+        }
+    }
+
+    private static void rule10Texts() {
+        rule = "rule 10";
+        for (TreePath piece : pieces) {
+            if (piece.getLeaf() instanceof BinaryTree
+                    || piece.getLeaf() instanceof CompoundAssignmentTree) {
+                due("a text is joined: " + piece.getLeaf(), true,
+                        trees.getTypeMirror(piece).getKind().isPrimitive());
+            }
         }
     }
 
